@@ -177,7 +177,7 @@ public final class WaveBlocks {
         }
         long eight = 0L;
         for (int x = 0; x < SIDE; x++) {
-            eight = eight << 8 | sampleGrid[y * SIDE + x];
+            eight = (eight << 8) | sampleGrid[y * SIDE + x];
         }
         return eight;
     }
@@ -258,7 +258,7 @@ public final class WaveBlocks {
     }
 
     private static long rounded(long value, int shift) {
-        return value + (1L << (shift - 1)) >> shift;
+        return (value + (1L << (shift - 1))) >> shift;
     }
 
     private static int clamped(long value, int least, int greatest) {
