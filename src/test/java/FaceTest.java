@@ -47,7 +47,8 @@ public final class FaceTest {
             if (Modifier.isPrivate(method.getModifiers()) || method.isSynthetic()) {
                 continue;
             }
-            seen.add((Modifier.isPublic(method.getModifiers()) ? "" : "not public: ") + told(method));
+            boolean plain = method.getModifiers() == Modifier.PUBLIC;
+            seen.add((plain ? "" : Modifier.toString(method.getModifiers()) + ": ") + told(method));
             names.add(method.getName());
         }
         Checks.due("the methods", seen.toString(), new TreeSet<>(Arrays.asList(FACE)).toString());
@@ -70,14 +71,33 @@ public final class FaceTest {
         Checks.due("NONE", WaveBlocks.NONE, -1);
     }
 
+    private static void noneIsDeclared() {
+        String declared = "there is none";
+        for (Field field : WaveBlocks.class.getDeclaredFields()) {
+            if (field.getName().equals("NONE")) {
+                declared = field.toString();
+            }
+        }
+        Checks.due("the declaration of NONE", declared, "public static final int WaveBlocks.NONE");
+    }
+
+    private static void nothingAbove() {
+        Checks.due("the class above", WaveBlocks.class.getSuperclass().getName(), "java.lang.Object");
+        Checks.due("interfaces", WaveBlocks.class.getInterfaces().length, 0);
+        Checks.due("public classes inside", WaveBlocks.class.getClasses().length, 0);
+    }
+
     public static void main(String[] args) {
         int modifiers = WaveBlocks.class.getModifiers();
         Checks.due("public and final", String.valueOf(Modifier.isPublic(modifiers) && Modifier.isFinal(modifiers)), "true");
         Constructor<?>[] constructors = WaveBlocks.class.getDeclaredConstructors();
         Checks.due("constructors", constructors.length, 1);
         Checks.due("the constructor", constructors[0].toString(), "public WaveBlocks()");
+        Checks.due("what the constructor throws", constructors[0].getExceptionTypes().length, 0);
         methods();
         fields();
+        noneIsDeclared();
+        nothingAbove();
         Checks.end();
     }
 }
